@@ -590,7 +590,7 @@ public final class SpellDesk {
 
         void printNumber(int number) {
             int unit = 1;
-            for (int digits = 1; digits < 10 && number / unit >= 10; digits++) {
+            for (int left = number / 10; left > 0; left /= 10) {
                 unit *= 10;
             }
             for (int rest = unit; rest > 0; rest /= 10) {

@@ -17,7 +17,7 @@ public final class Promise04CheckLookTest {
         desk.given("add cat", "add dog/S", "suffix S 0 s 0");
         desk.says("check cat", "-").says("check cat dog cat dogs", "-");
         desk.says("check cats cat dogs ca dog ca c", "c ca cats");
-        desk.says("check " + TWENTY_EIGHT, TWENTY_EIGHT);
+        desk.says("check " + TWENTY_EIGHT, TWENTY_EIGHT).says("check z " + TWENTY_EIGHT, TWENTY_EIGHT + " z");
         desk.says("count", "2 0 1");
     }
 

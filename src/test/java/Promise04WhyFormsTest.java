@@ -5,6 +5,7 @@ public final class Promise04WhyFormsTest {
         orderOfWays();
         allWays();
         forms();
+        manyForms();
         counting();
         Due.end();
     }
@@ -76,6 +77,14 @@ public final class Promise04WhyFormsTest {
         Due.same("size of 81 forms", most.size(), length);
         same(most, "their front", 0, "azzzzzqqqqqqqqqqqqqqqq azzzzzqqqqqqqqqqqqqqqqazzzzz azzzzzqqq");
         same(most, "their end", length - 24, " qqqqqqqqqqqqqqqqhzzzzz\n");
+    }
+
+    private static void manyForms() {
+        Desk desk = new Desk();
+        desk.given("add aaaaaaaaaaaaaaaa/A", "suffix A 0 bbbbbb 0", "prefix A 0 bbbbbb 0");
+        desk.given("forms aaaaaaaaaaaaaaaa\n".repeat(80));
+        desk.says("forms aaaaaaaaaaaaaaaa", "aaaaaaaaaaaaaaaa aaaaaaaaaaaaaaaabbbbbb bbbbbbaaaaaaaaaaaaaaaa "
+            + "bbbbbbaaaaaaaaaaaaaaaabbbbbb");
     }
 
     private static void counting() {
