@@ -496,7 +496,7 @@ public final class SpellDesk {
             return next() && isWord(mostLetters) && ends();
         }
 
-        /** The piece's flags, a bit for each, when they stand behind so many letters; below 0 if they are not as told. */
+        /** The flags behind the piece's letters, a bit for each; below 0 if they are not as told. */
         int flagsBehind(int letters) {
             int slash = start + letters;
             if (slash == end) {
