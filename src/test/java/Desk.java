@@ -5,6 +5,22 @@ final class Desk {
     private final SpellDesk desk = new SpellDesk();
     private int calls = 0;
 
+    /** A desk with so many entries, the first of aa, ab .. zz. */
+    static Desk withEntries(int count) {
+        Desk desk = new Desk();
+        StringBuilder lines = new StringBuilder();
+        for (int i = 0; i < count; i++) {
+            lines.append("add ").append((char) ('a' + i / 26)).append((char) ('a' + i % 26)).append('\n');
+            if (i % 250 == 249 || i == count - 1) {
+                desk.type(lines.toString());
+                desk.run();
+                lines.setLength(0);
+            }
+        }
+        Due.same("size() when " + count + " were added", desk.size(), count * "ok\n".length());
+        return desk.wipe();
+    }
+
     private SpellDesk called() {
         calls++;
         if (calls == CALLS + 1) {
@@ -13,14 +29,24 @@ final class Desk {
         return desk;
     }
 
+    int calls() {
+        return calls;
+    }
+
     /** Whether the call threw. */
     boolean typeThrows(int a, int b, int c, int d) {
         try {
             called().type(a, b, c, d);
             return false;
         } catch (IllegalStateException e) {
+            isAsPromised(e, IllegalStateException.class);
             return true;
         }
+    }
+
+    /** An exception of a class below the promised one comes from the Java machine, which must never throw. */
+    private static void isAsPromised(RuntimeException thrown, Class<?> promised) {
+        Due.same("the exception", thrown.getClass(), promised);
     }
 
     Desk type(String text) {
@@ -57,6 +83,7 @@ final class Desk {
         try {
             return called().output(i);
         } catch (IndexOutOfBoundsException e) {
+            isAsPromised(e, IndexOutOfBoundsException.class);
             return -1;
         }
     }
@@ -79,12 +106,15 @@ final class Desk {
     }
 
     String output() {
-        StringBuilder all = new StringBuilder();
-        int size = size();
-        for (int i = 0; i < size; i++) {
-            all.append((char) output(i));
+        return output(0, size());
+    }
+
+    String output(int from, int to) {
+        StringBuilder part = new StringBuilder();
+        for (int i = from; i < to; i++) {
+            part.append((char) output(i));
         }
-        return all.toString();
+        return part.toString();
     }
 
     /** Types these lines and runs them, with no word about what they print. */

@@ -164,7 +164,8 @@ final class Model {
         if (rules.size() == 8) {
             return "full";
         }
-        rules.add(new Rule(front, pieces.get(1), letters(pieces.get(2)), letters(pieces.get(3)), letters(pieces.get(4))));
+        rules.add(new Rule(front, pieces.get(1), letters(pieces.get(2)), letters(pieces.get(3)),
+            letters(pieces.get(4))));
         return "ok";
     }
 

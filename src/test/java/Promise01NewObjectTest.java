@@ -1,8 +1,25 @@
-/** Promise 1: no entries, no rules, no text, no output; and objects share nothing. */
+/** Promise 1: a new object is empty, and objects share nothing. */
 public final class Promise01NewObjectTest {
     public static void main(String[] args) {
-        empty(new Desk());
+        everythingIsEmpty();
+        linesFindNothing();
+        besideAnother();
+        Due.end();
+    }
 
+    private static void everythingIsEmpty() {
+        Due.sentence("No entries, no rules, no text, no output.");
+        empty(new Desk());
+    }
+
+    private static void linesFindNothing() {
+        Due.sentence("No entries, no rules, no text, no output.");
+        new Desk().says("count", "0 0 0").says("check a", "a").says("look a", "-").says("why a", "-")
+            .says("forms a", "-").says("drop a", "none").says("clear", "ok");
+    }
+
+    private static void besideAnother() {
+        Due.sentence("No entries, no rules, no text, no output.");
         Desk full = new Desk();
         full.given("add cat/S", "suffix S 0 s 0", "prefix S 0 un 0").type("count");
         full.run();
@@ -11,9 +28,6 @@ public final class Promise01NewObjectTest {
         Due.same("the other's entries", full.entries(), 1);
         Due.same("the other's output", full.output(), "1 1 1\n");
         Due.same("the other's text", full.typed(), 4);
-
-        new Desk().says("count", "0 0 0").says("check a", "a").says("look a", "-").says("why a", "-");
-        Due.end();
     }
 
     private static void empty(Desk desk) {

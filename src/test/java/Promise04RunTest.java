@@ -1,55 +1,66 @@
-/** Promise 4: run does all lines, tells how many, and empties the text; how lines and pieces are parted. */
+/** Promise 4: run does all lines and tells how many; what lines are and do is tested by the tests of the Terms. */
 public final class Promise04RunTest {
     public static void main(String[] args) {
-        lines("", 0, "");
-        lines("count", 1, "0 0 0\n");
-        lines("count\n", 1, "0 0 0\n");
-        lines("count\ncount", 2, "0 0 0\n0 0 0\n");
-        lines("\n", 1, "");
-        lines("\n\n\n", 3, "");
-        lines(" ", 1, "");
-        lines("\n ", 2, "");
-        lines("count\n\n   \ncount\n", 4, "0 0 0\n0 0 0\n");
-        lines("   count", 1, "0 0 0\n");
-        lines("count    ", 1, "0 0 0\n");
-        lines("  add   cat   \n  look     c  ", 2, "ok\ncat\n");
-        lines("add cat\nadd dog\nadd cat\ndrop dog\ncount\n", 5, "ok\nok\nagain\nok\n1 0 0\n");
-
-        lines("add\tcat", 1, "? 1\n");
-        lines("count\r\n", 1, "? 1\n");
-        lines("add cat\r\n", 1, "? 5\n");
-        lines("\t", 1, "? 1\n");
-        lines("\u00ff", 1, "? 1\n");
-
-        linesAcrossRuns();
-        textOfLineEnds();
+        allLinesAreDone();
+        howManyThereWere();
+        thoseWithoutPiecesToo();
+        noLines();
+        asManyLinesAsTheTextHolds();
         Due.end();
     }
 
-    private static void lines(String text, int count, String printed) {
+    private static void allLinesAreDone() {
+        Due.sentence("Does all lines of the text");
         Desk desk = new Desk();
+        desk.type("add b\nbogus\nadd a\n\ndrop b\nadd c");
+        Due.same("run()", desk.run(), 6);
+        Due.same("output", desk.output(), "ok\n? 1\nok\nok\nok\n");
+        Due.same("entries()", desk.entries(), 2);
+        Due.same("typed()", desk.typed(), 0);
+    }
+
+    private static void howManyThereWere() {
+        Due.sentence("how many there were (those without pieces, too)");
+        Desk desk = new Desk();
+        runs(desk, "count", 1);
+        runs(desk, "count\n", 1);
+        runs(desk, "count\nbogus", 2);
+        runs(desk, "a\nb\nc\n", 3);
+        runs(desk, "a\nb\nc\nd", 4);
+    }
+
+    private static void thoseWithoutPiecesToo() {
+        Due.sentence("(those without pieces, too)");
+        Desk desk = new Desk();
+        runs(desk, "\n", 1);
+        runs(desk, " ", 1);
+        runs(desk, " \n", 1);
+        runs(desk, "\n ", 2);
+        runs(desk, "\n\n", 2);
+        runs(desk, "  \n\n  \n  ", 4);
+        Due.same("size()", desk.size(), 0);
+        runs(desk, "\ncount\n\n", 3);
+    }
+
+    private static void noLines() {
+        Due.sentence("Does all lines of the text: how many there were");
+        Desk desk = new Desk();
+        Due.same("run() of no text", desk.run(), 0);
+        runs(desk, "count", 1);
+        Due.same("run() of no text more", desk.run(), 0);
+        Due.same("size()", desk.size(), 6);
+    }
+
+    private static void asManyLinesAsTheTextHolds() {
+        Due.sentence("Does all lines of the text: how many there were");
+        runs(new Desk(), "\n".repeat(2048), 2048);
+        runs(new Desk(), "\n".repeat(2047) + " ", 2048);
+        runs(new Desk(), "x\n".repeat(1024), 1024);
+        runs(new Desk(), "x".repeat(2048), 1);
+    }
+
+    private static void runs(Desk desk, String text, int lines) {
         desk.type(text);
-        Due.same("run() of '" + text + "'", desk.run(), count);
-        Due.same("what '" + text + "' prints", desk.output(), printed);
-        Due.same("typed() behind '" + text + "'", desk.typed(), 0);
-        Due.same("run() once more", desk.run(), 0);
-        Due.same("which prints nothing", desk.size(), printed.length());
-    }
-
-    private static void linesAcrossRuns() {
-        Desk desk = new Desk();
-        desk.type("add ca").type("t\nadd d");
-        Due.same("a line typed in parts", desk.run(), 2);
-        desk.type("og\n");
-        Due.same("a run ends the last line", desk.run(), 1);
-        Due.same("output", desk.output(), "ok\nok\n? 1\n");
-        desk.wipe().says("look d", "d");
-    }
-
-    private static void textOfLineEnds() {
-        Desk desk = new Desk();
-        desk.type("\n".repeat(2048));
-        Due.same("2048 lines", desk.run(), 2048);
-        Due.same("without output", desk.size(), 0);
+        Due.same("run() of '" + text + "'", desk.run(), lines);
     }
 }

@@ -1,9 +1,25 @@
 /** Promise 8: the output is empty, and nothing is lost; all else stays. */
 public final class Promise08WipeTest {
     public static void main(String[] args) {
+        anEmptyOutput();
+        theOutputAlone();
+        aFullOutput();
+        Due.end();
+    }
+
+    private static void anEmptyOutput() {
+        Due.sentence("The output is empty, and nothing is LOST.");
         Desk desk = new Desk();
         desk.wipe();
-        Due.same("wiping nothing", desk.size(), 0);
+        desk.wipe();
+        Due.same("size()", desk.size(), 0);
+        Due.same("lost()", desk.lost(), 0);
+        Due.same("output(0)", desk.output(0), -1);
+    }
+
+    private static void theOutputAlone() {
+        Due.sentence("The output is empty, and nothing is LOST.");
+        Desk desk = new Desk();
         desk.type("add cat/S\nprefix S 0 un 0\nsuffix S 0 s 0");
         desk.run();
         desk.type("look c");
@@ -17,7 +33,11 @@ public final class Promise08WipeTest {
         Due.same("the suffixes stay", desk.rules(false), 1);
         Due.same("run()", desk.run(), 1);
         Due.same("output begins anew", desk.output(), "cat\n");
+        desk.wipe().says("forms cat", "cat cats uncat uncats");
+    }
 
+    private static void aFullOutput() {
+        Due.sentence("The output is empty, and nothing is LOST.");
         Desk full = new Desk();
         for (int i = 0; i < 2; i++) {
             full.type("?\n".repeat(1000));
@@ -31,6 +51,8 @@ public final class Promise08WipeTest {
         full.run();
         Due.same("there is room again", full.output(), "0 0 0\n");
         Due.same("and nothing lost", full.lost(), 0);
-        Due.end();
+        full.type("?\n".repeat(1000));
+        full.run();
+        Due.same("room for as much as before", full.size(), 4006);
     }
 }
