@@ -2,6 +2,7 @@ import java.util.Random;
 
 /** Chance runs, always the same ones, on the desk and on the model. */
 public final class ModelTest {
+    private static final int TEXT_LIMIT = 2048;
     private static final int OUTPUT_LIMIT = 6000;
     private static final String[] VERBS = {"add", "add", "add", "add", "drop", "prefix", "prefix", "suffix", "suffix",
         "check", "check", "look", "why", "why", "forms", "forms", "count"};
@@ -20,6 +21,9 @@ public final class ModelTest {
         }
         for (int seed = 1; seed <= 200; seed++) {
             new ModelTest(-seed).longRun("long run " + seed);
+        }
+        for (int seed = 1; seed <= 200; seed++) {
+            new ModelTest(seed).byteRun("byte run " + seed);
         }
         Due.end();
     }
@@ -59,6 +63,45 @@ public final class ModelTest {
             look(desk, name, printed, from, Math.min(kept, from + 30));
             state(desk, model, name);
         }
+    }
+
+    /** Any bytes, spaces and line ends among them, until they are refused. */
+    private void byteRun(String name) {
+        Desk desk = new Desk();
+        Model model = new Model();
+        StringBuilder text = new StringBuilder();
+        for (int i = 0; i < 200; i++) {
+            int[] fours = {four(), four(), four(), four()};
+            String more = characters(fours);
+            boolean refused = text.length() + more.length() > TEXT_LIMIT;
+            Due.same(name + ": type " + i, desk.typeThrows(fours[0], fours[1], fours[2], fours[3]), refused);
+            text.append(refused ? "" : more);
+        }
+        Due.same(name + ": typed()", desk.typed(), text.length());
+        Due.same(name + ": run()", desk.run(), model.run(text.toString()));
+        String printed = model.output();
+        Due.same(name + ": size()", desk.size(), Math.min(printed.length(), OUTPUT_LIMIT));
+        look(desk, name, printed, 0, Math.min(printed.length(), 250));
+    }
+
+    private int four() {
+        int four = 0;
+        for (int i = 0; i < 4; i++) {
+            int[] choices = {0, ' ', '\n', 'a' + chance.nextInt(26), chance.nextInt(256), chance.nextInt(256)};
+            four = four << 8 | choices[chance.nextInt(choices.length)];
+        }
+        return four;
+    }
+
+    private static String characters(int[] fours) {
+        StringBuilder characters = new StringBuilder();
+        for (int four : fours) {
+            for (int i = 0; i < 4; i++) {
+                int character = four >>> 24 - 8 * i & 255;
+                characters.append(character == 0 ? "" : (char) character);
+            }
+        }
+        return characters.toString();
     }
 
     private static void look(Desk desk, String name, String printed, int from, int to) {
